@@ -459,14 +459,14 @@ public final class ScissorsTable {
         if (i < 0 || i >= stairs.steps || what < 0 || what > 2) {
             return HIDDEN;
         }
-        return stairs.labels[i * 3 + what];
+        return stairs.labelOf(i, what);
     }
 
     public int side(int i, int axis) {
         if (!stairs.reaches(i) || axis < 0 || axis > 2) {
             return HIDDEN;
         }
-        stairs.sidesBehind(i);
+        stairs.carry(0, 0, 0, i);
         return stairs.sides[axis];
     }
 
@@ -1106,15 +1106,15 @@ public final class ScissorsTable {
 
         /** Only these angles are twelfths of a half turn with a tangent B by A times a root. */
         private int findTwelfths() {
-            int size = Math.abs(a);
+            int real = Math.abs(a);
             int from = NONE;
             if (a == 0) {
                 from = RIGHT;
-            } else if (m == 1 && b == 1 && size == 1) {
+            } else if (m == 1 && b == 1 && real == 1) {
                 from = 3;
-            } else if (m == 3 && b == 1 && size == 1) {
+            } else if (m == 3 && b == 1 && real == 1) {
                 from = 4;
-            } else if (m == 3 && b == 1 && size == 3) {
+            } else if (m == 3 && b == 1 && real == 3) {
                 from = 2;
             }
             return from != NONE && a < 0 ? 2 * RIGHT - from : from;
@@ -1609,20 +1609,22 @@ public final class ScissorsTable {
         static final int MOST_SIDE = 24;
         static final int MOST_VOLUME = 1728;
         static final int BOXES = MOST_SIDE * MOST_SIDE;
+        static final int LABELS = MOST_SIDE + 1;
         /** By an axis a CUBE goes at most 23 back or on. */
         static final int WAYS = 2 * MOST_SIDE - 1;
 
         /** NONE without a PLAN. */
         int steps = NONE;
-        /** I, J, N of each STEP. */
-        final int[] labels = new int[BOXES * 3];
+        /** Of each STEP I, J, N in one number that rises with them. */
+        private final int[] labels = new int[BOXES];
         final int[] sides = new int[3];
         final int[] spot = new int[3];
         private final int[] start = new int[3];
         /** For each box, told by its first two sides, the box ahead of it, NONE if it was not reached. */
         private final int[] ahead = new int[BOXES];
         private final int[] queue = new int[BOXES];
-        private final int[] label = new int[BOXES];
+        /** For each box the STEP that reached it. */
+        private final int[] reached = new int[BOXES];
         private int queued;
         private final long[] seen = new long[WAYS * WAYS * WAYS / 64 + 1];
 
@@ -1673,7 +1675,7 @@ public final class ScissorsTable {
                     int next = boxOf(first, second);
                     if (ahead[next] == NONE && queued < BOXES) {
                         ahead[next] = box;
-                        label[next] = (i * 3 + j) * (MOST_SIDE + 1) + n;
+                        reached[next] = (i * 3 + j) * LABELS + n;
                         queue[queued] = next;
                         queued++;
                     }
@@ -1694,21 +1696,26 @@ public final class ScissorsTable {
             int length = 0;
             int box = boxOf(d, e);
             for (int k = 0; k < BOXES && box != first; k++) {
-                queue[length] = label[box];
+                queue[k] = reached[box];
                 length++;
                 box = ahead[box];
             }
             for (int k = 0; k < length; k++) {
-                int told = queue[length - 1 - k];
-                int axes = told / (MOST_SIDE + 1);
-                labels[k * 3] = axes / 3;
-                labels[k * 3 + 1] = axes % 3;
-                labels[k * 3 + 2] = told % (MOST_SIDE + 1);
+                labels[k] = queue[length - 1 - k];
             }
             start[0] = a;
             start[1] = b;
             start[2] = c;
             steps = length;
+        }
+
+        /** I, J or N of a STEP. */
+        int labelOf(int step, int what) {
+            int axes = labels[step] / LABELS;
+            if (what == 2) {
+                return labels[step] % LABELS;
+            }
+            return what == 0 ? axes / 3 : axes % 3;
         }
 
         boolean reaches(int i) {
@@ -1719,14 +1726,7 @@ public final class ScissorsTable {
             return x >= 0 && x < start[0] && y >= 0 && y < start[1] && z >= 0 && z < start[2];
         }
 
-        void sidesBehind(int i) {
-            System.arraycopy(start, 0, sides, 0, 3);
-            for (int k = 0; k < i && k < steps; k++) {
-                takeStep(k);
-            }
-        }
-
-        /** Where a CUBE lies behind so many STEPS comes to spot. */
+        /** Where a CUBE lies behind so many STEPS comes to spot, the sides of the box then to sides. */
         void carry(int x, int y, int z, int i) {
             System.arraycopy(start, 0, sides, 0, 3);
             spot[0] = x;
@@ -1739,9 +1739,9 @@ public final class ScissorsTable {
 
         /** One STEP of the box and of the CUBE at spot. */
         private void takeStep(int k) {
-            int i = labels[k * 3];
-            int j = labels[k * 3 + 1];
-            int n = labels[k * 3 + 2];
+            int i = labelOf(k, 0);
+            int j = labelOf(k, 1);
+            int n = labelOf(k, 2);
             int partI = n > 0 ? sides[i] / n : 0;
             int partJ = n > 1 ? sides[j] / (n - 1) : 0;
             if (partI == 0 || partJ == 0) {
