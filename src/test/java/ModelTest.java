@@ -19,9 +19,8 @@ public final class ModelTest {
     public static void main(String[] args) {
         int runs = args.length > 0 ? Integer.parseInt(args[0]) : RUNS;
         int from = args.length > 1 ? Integer.parseInt(args[1]) : 0;
-        int[] uses = new int[36];
         for (int seed = from; seed < from + runs && wrong < 20; seed++) {
-            new Run(seed, uses).go();
+            new Run(seed).go();
         }
         System.out.println("ModelTest: " + runs + " runs, " + wrong + " wrong");
         if (wrong != 0) {
@@ -35,19 +34,20 @@ public final class ModelTest {
         final Random random;
         final ScissorsTable table = new ScissorsTable();
         final Model model = new Model();
-        final int[] uses;
         final List<String> log = new ArrayList<>();
         boolean broken;
+        /** While it is, nothing is changed, so that several EDGES stay PICKED. */
+        boolean quiet;
         int calls;
 
-        Run(int seed, int[] uses) {
+        Run(int seed) {
             this.seed = seed;
-            this.uses = uses;
             random = new Random(seed * 7919L + 13);
         }
 
         void go() {
             while (calls < CALLS && !broken) {
+                quiet = random.nextInt(20) == 0 ? random.nextBoolean() : quiet;
                 if (calls == 0 || random.nextInt(45) == 0) {
                     tell();
                 } else {
@@ -106,6 +106,9 @@ public final class ModelTest {
 
         void one() {
             int which = random.nextInt(39);
+            if (quiet && which >= 16 && which <= 24) {
+                which = new int[] {25, 27, 28, 28, 29, 30, 30, 31, 31}[which - 16];
+            }
             switch (which) {
                 case 0: feed(new int[] {random.nextInt(), random.nextInt(4), 0, 0, random.nextInt(3) << 8}); break;
                 case 1: { int n = random.nextInt(700) - 20; due("end(" + n + ")", table.end(n) ? 1 : 0, model.end(n) ? 1 : 0); break; }
@@ -256,6 +259,9 @@ public final class ModelTest {
     /** Random TEXTS, right ones and others. */
     private static final class Texts {
         static String text(Random random) {
+            if (random.nextInt(3) == 0) {
+                return family(random);
+            }
             StringBuilder text = new StringBuilder();
             int clauses = 1 + random.nextInt(random.nextInt(6) == 0 ? 30 : 8);
             int reach = new int[] {1, 2, 3, 9}[random.nextInt(4)];
@@ -269,6 +275,27 @@ public final class ModelTest {
                 spoil(text, random);
             }
             return text.length() > 560 ? text.substring(0, 560 - random.nextInt(8)) : text.toString();
+        }
+
+        /** A few TETS, each in several sizes and SOLIDS, so that SUMS and ANGLES hang together. */
+        static String family(Random random) {
+            int kinds = 1 + random.nextInt(3);
+            int[][] kind = new int[kinds][12];
+            for (int[] corners : kind) {
+                for (int k = 0; k < 12; k++) {
+                    corners[k] = random.nextInt(5) / 2 - random.nextInt(2);
+                }
+            }
+            StringBuilder text = new StringBuilder();
+            for (int k = 4 + random.nextInt(16); k > 0; k--) {
+                int[] corners = kind[random.nextInt(kinds)];
+                int size = 1 + random.nextInt(4);
+                text.append(text.length() == 0 ? "t" : ";t").append(random.nextInt(4));
+                for (int c = 0; c < 12; c++) {
+                    text.append(c == 0 ? ":" : c % 3 == 0 ? "/" : ",").append(size * corners[c]);
+                }
+            }
+            return text.substring(0, Math.min(text.length(), 560));
         }
 
         static void blanks(StringBuilder text, Random random) {
