@@ -442,7 +442,7 @@ public final class ScissorsTable {
     }
 
     public int plan(int a, int b, int c, int d, int e, int f) {
-        if (!Stairs.isBox(a, b, c) || !Stairs.isBox(d, e, f)) {
+        if (!Stairs.areSides(a, b, c) || !Stairs.areSides(d, e, f) || a * b * c > Stairs.MOST_VOLUME) {
             return OUT_OF_BOUNDS;
         }
         if (a * b * c != d * e * f) {
@@ -1628,8 +1628,8 @@ public final class ScissorsTable {
         private int queued;
         private final long[] seen = new long[WAYS * WAYS * WAYS / 64 + 1];
 
-        static boolean isBox(int a, int b, int c) {
-            return isSide(a) && isSide(b) && isSide(c) && a * b * c <= MOST_VOLUME;
+        static boolean areSides(int a, int b, int c) {
+            return isSide(a) && isSide(b) && isSide(c);
         }
 
         private static boolean isSide(int side) {

@@ -1218,7 +1218,7 @@ public final class ModelTest {
                     return -2;
                 }
             }
-            if (s[0] * s[1] * s[2] > 1728 || s[3] * s[4] * s[5] > 1728) {
+            if (s[0] * s[1] * s[2] > 1728) {
                 return -2;
             }
             if (s[0] * s[1] * s[2] != s[3] * s[4] * s[5]) {

@@ -1110,7 +1110,8 @@ public final class PromiseTest {
             }
         }
         due("more than 1,728", table.plan(24, 24, 4, 24, 24, 4), -2);
-        due("more than 1,728", table.plan(24, 24, 3, 24, 24, 4), -2);
+        due("more than 1,728 comes first", table.plan(24, 24, 4, 24, 24, 3), -2);
+        due("only the other is more", table.plan(24, 24, 3, 24, 24, 4), -3);
         due("1,728", table.plan(24, 24, 3, 24, 24, 3), 0);
         due("volumes", table.plan(2, 2, 2, 2, 2, 3), -3);
         due("there is none", table.plan(1, 1, 7, 7, 1, 1), NONE);
