@@ -1128,7 +1128,7 @@ public final class ScissorsTable {
             }
             int x = oneFace;
             int y = otherFace;
-            for (int p = 2; p * p <= Math.max(x, y); p++) {
+            for (int p = 2; p * p <= Math.max(x, y); p += p == 2 ? 1 : 2) {
                 if (x % p == 0 || y % p == 0) {
                     x = without(x, p);
                     y = without(y, p);

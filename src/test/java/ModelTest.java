@@ -126,7 +126,7 @@ public final class ModelTest {
                 case 13: { int s = solid(), o = solid(), w = number(0, 2); due("unlike(" + s + "," + o + "," + w + ")", table.unlike(s, o, w), model.unlike(s, o, w)); break; }
                 case 14: { int s = solid(), o = solid(); due("lacks(" + s + "," + o + ")", table.lacks(s, o), model.lacks(s, o)); break; }
                 case 15: { int t = tet(); int[] p = point(t); due("where(" + t + "," + Arrays.toString(p) + ")", table.where(t, p[0], p[1], p[2]), model.where(t, p[0], p[1], p[2])); break; }
-                case 16: { int t = tet(); int[] p = point(t); due("cut(" + t + "," + Arrays.toString(p) + ")", table.cut(t, p[0], p[1], p[2]), model.cut(t, p[0], p[1], p[2])); allCorners(); break; }
+                case 16: { int t = tet(); int[] p = point(t); due("cut(" + t + "," + Arrays.toString(p) + ")", table.cut(t, p[0], p[1], p[2]), model.cut(t, p[0], p[1], p[2])); allCorners(); joinAgain(t); break; }
                 case 17: oneJoin(); break;
                 case 18: { int t = tet(), b = number(0, 47); due("turn(" + t + "," + b + ")", table.turn(t, b), model.turn(t, b)); allCorners(); break; }
                 case 19: { int t = tet(); int r = random.nextInt(4) == 0 ? 18 : 2, x = number(-r, r), y = number(-r, r), z = number(-r, r); due("move(" + t + "," + x + "," + y + "," + z + ")", table.move(t, x, y, z), model.move(t, x, y, z)); allCorners(); break; }
@@ -208,6 +208,15 @@ public final class ModelTest {
             }
             due("join(" + t + "," + o + ")", table.join(t, o), model.join(t, o));
             allCorners();
+        }
+
+        /** A TET and the last one, which were one if it was just CUT in two. */
+        void joinAgain(int t) {
+            if (random.nextInt(3) == 0) {
+                int last = model.tets.size() - 1;
+                due("join(" + last + "," + t + ")", table.join(last, t), model.join(last, t));
+                allCorners();
+            }
         }
 
         void oneCutsTo() {

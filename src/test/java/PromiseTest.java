@@ -43,6 +43,7 @@ public final class PromiseTest {
         promise18();
         promise18Edges();
         promise19();
+        promise19Axes();
         promise19Refused();
         promise20();
         promise21();
@@ -225,6 +226,15 @@ public final class PromiseTest {
         faultIs("t0:0,0,0;", 8);
         faultIs("t0:-0,-9,9/-0,9,9/1,1,1/0,0,0", NONE);
         faultIs("t0:10,", 4);
+        // : is the sign behind 9, / that ahead of 0.
+        faultIs("t:", 1);
+        faultIs("t/", 1);
+        faultIs("t0::", 3);
+        faultIs("t0:/", 3);
+        faultIs("t0:-:", 4);
+        faultIs("t0:-/", 4);
+        faultIs("b0:0,0,0/:", 9);
+        faultIs("p0::", 3);
         faultIs("b0:0,0,0/1,1,1", NONE);
         faultIs("b0:0,0,0/0,1,1", 9);
         faultIs("b0:0,0,0/1,1,-1", 13);
@@ -629,6 +639,11 @@ public final class PromiseTest {
             due("beyond on the line of an EDGE", table.where(tet, 5, 0, 0), 0);
         }
         due("far", table.where(0, 10, 0, 0), 0);
+        for (int far : new int[] {1 << 28, 1 << 30, LEAST, GREATEST}) {
+            due("far by X", table.where(0, far, 0, 0), 0);
+            due("far by Y", table.where(0, 0, far, 0), 0);
+            due("far by Z", table.where(0, 0, 0, far), 0);
+        }
         due("far", table.where(0, LEAST, GREATEST, 1), 0);
         due("far", table.where(0, 1 << 30, 1 << 30, 1 << 31), 0);
         for (int bad : new int[] {-1, 2, LEAST, GREATEST}) {
@@ -718,6 +733,27 @@ public final class PromiseTest {
         due("the SUM", again.much(0, 2, 3), 12);
         due("the SUM", again.solid(0, 3), 1);
         due("SIX", again.solid(0, 0), 64);
+    }
+
+    /** The one that goes lies between the others by each axis, and aslant. */
+    private static void promise19Axes() {
+        promise = 19;
+        int[][] ways = {{1, 0, 0}, {0, 1, 0}, {0, 0, 1}, {1, 1, 0}, {1, -1, 0}, {0, 1, -1}, {-1, 0, 1}, {1, 2, 3}, {-1, -1, -1}, {2, -1, 0}};
+        for (int[] way : ways) {
+            for (int times = -2; times <= 2; times++) {
+                String rest = "/3,2,1/" + (way[0] == 2 ? "1,0,3" : "2,-1,0") + "/0,0,0";
+                ScissorsTable table = told("t0:" + way[0] + "," + way[1] + "," + way[2] + rest + ";t0:"
+                        + times * way[0] + "," + times * way[1] + "," + times * way[2] + rest);
+                if (times == 0 || table.count(0) < 2) {
+                    continue;
+                }
+                int six = table.solid(0, 0);
+                due("join by " + way[0] + "," + way[1] + "," + way[2] + " times " + times, table.join(0, 1), times < 0 ? 0 : -3);
+                due("volume", table.solid(0, 0), six);
+                due("corner(0, 0, 0)", table.corner(0, 0, 0), way[0]);
+                due("corner(0, 3, 2)", table.corner(0, 3, 2), times < 0 ? times * way[2] : 0);
+            }
+        }
     }
 
     private static void promise19Refused() {
@@ -911,6 +947,10 @@ public final class PromiseTest {
         due("no such one", table.cutsTo(4, 1), NONE);
         due("no such one", table.cutsTo(-1, 1), NONE);
         due("nothing is changed", table.count(0), 4);
+        due("40 and no more", told("t0:0,9,1/-5,3,8/-1,-5,3/3,5,5").cutsTo(0, 11), 40);
+        due("40 and no more", told("t0:6,-6,8/-8,-5,4/-2,-6,8/5,-6,-9").cutsTo(0, 3), 40);
+        due("41", told("t0:6,3,-9/2,-7,-4/-5,-8,-9/0,4,-1").cutsTo(0, 19), NONE);
+        due("42", told("t0:-3,-4,8/9,-1,-4/4,-7,-6/-4,8,0").cutsTo(0, 29), NONE);
         ScissorsTable stuck = told("t0:0,0,0/1,0,0/0,1,0/1,1,9");
         due("can't be CUT", stuck.cutsTo(0, 8), NONE);
         due("need not", stuck.cutsTo(0, 9), 0);
@@ -1113,6 +1153,7 @@ public final class PromiseTest {
         due("more than 1,728 comes first", table.plan(24, 24, 4, 24, 24, 3), -2);
         due("only the other is more", table.plan(24, 24, 3, 24, 24, 4), -3);
         due("1,728", table.plan(24, 24, 3, 24, 24, 3), 0);
+        due("1,729", table.plan(7, 13, 19, 7, 13, 19), -2);
         due("volumes", table.plan(2, 2, 2, 2, 2, 3), -3);
         due("there is none", table.plan(1, 1, 7, 7, 1, 1), NONE);
         due("the PLAN stays", table.count(3), 0);
@@ -1134,6 +1175,8 @@ public final class PromiseTest {
         due("no PLAN", table.step(0, 0), HIDDEN);
         table.plan(12, 12, 12, 9, 16, 12);
         stepIs(table, 0, 0, 1, 4);
+        table.plan(1, 24, 23, 1, 23, 24);
+        stepIs(table, 0, 1, 2, 24);
         table.plan(2, 1, 2, 1, 4, 1);
         due("two", table.count(3), 2);
         // First that of X: I 0 is ahead of I 2.
@@ -1220,7 +1263,15 @@ public final class PromiseTest {
         table.plan(24, 1, 1, 24, 1, 1);
         due("no STEPS", table.pieces(0), 1);
         due("no STEPS", table.pieces(1), HIDDEN);
-        // There and back again: those that went back to where they were are one with those that stayed.
+        // As far as can be: 24 places by one axis are 24 ways.
+        for (int k = 0; k < 9; k++) {
+            int[] from = {1, 1, 1};
+            int[] to = {1, 1, 1};
+            from[k / 3] = 24;
+            to[k % 3] = 24;
+            int steps = table.plan(from[0], from[1], from[2], to[0], to[1], to[2]);
+            due("24 places", table.pieces(steps), k % 4 == 0 ? 1 : 24);
+        }
         table.plan(4, 1, 3, 1, 4, 3);
         due("four places by X", table.pieces(2), 4);
         due("the same again", table.pieces(2), 4);
