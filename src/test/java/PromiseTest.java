@@ -1,22 +1,5 @@
-import java.util.NoSuchElementException;
-
 /** For each promise of the document: ordinary inputs, the edges that it names, wrong inputs; answers worked out by hand. */
-public final class PromiseTest {
-    private static final int NONE = -1;
-    private static final int HIDDEN = -1000000;
-    private static final int LEAST = Integer.MIN_VALUE;
-    private static final int GREATEST = Integer.MAX_VALUE;
-    /** Three right angles at one CORNER, SIX 1. */
-    private static final String RIGHT = "t0:0,0,0/1,0,0/0,1,0/0,0,1";
-    /** All edges and angles alike, SIX 2. */
-    private static final String EVEN_SIDED = "t1:0,0,0/1,1,0/1,0,1/0,1,1";
-    /** Three right angles, sides 2, 3, 5, SIX 30: its other angles are by the primes 19 alone. */
-    private static final String BY_19 = "t0:0,0,0/2,0,0/0,3,0/0,0,5";
-
-    private static int promise;
-    private static int checks;
-    private static int wrong;
-
+public final class PromiseTest extends Checks {
     public static void main(String[] args) {
         promise1();
         promise2();
@@ -65,72 +48,15 @@ public final class PromiseTest {
         promise37();
         promise38();
         promise39();
-        System.out.println("PromiseTest: " + checks + " checks, " + wrong + " wrong");
-        if (wrong != 0) {
-            System.exit(1);
-        }
+        close("PromiseTest");
     }
 
-    private static void due(String call, long got, long want) {
-        checks++;
-        if (got != want) {
-            wrong++;
-            System.out.println("promise " + promise + ": " + call + " answered " + got + ", due is " + want);
-        }
-    }
-
-    private static void due(String call, boolean got, boolean want) {
-        due(call, got ? 1 : 0, want ? 1 : 0);
-    }
-
-    private static void write(ScissorsTable table, String text) {
-        for (int at = 0; at < text.length(); at += 20) {
-            int[] words = new int[5];
-            for (int k = 0; k < 20 && at + k < text.length(); k++) {
-                words[k / 4] |= (text.charAt(at + k) & 255) << 24 - 8 * (k % 4);
-            }
-            table.feed(words[0], words[1], words[2], words[3], words[4]);
-        }
-    }
-
-    private static ScissorsTable told(String text) {
-        ScissorsTable table = new ScissorsTable();
-        write(table, text);
-        due("text() of " + text, table.text() >= 0, true);
-        return table;
-    }
-
-    private static void faultIs(String text, int want) {
-        ScissorsTable table = new ScissorsTable();
-        write(table, text);
-        due("fault() of \"" + text + "\"", table.fault(), want);
-        due("text() of \"" + text + "\" refused", table.text() == NONE, want != NONE);
-    }
-
-    private static void leavesOut(String text, int want, int tets) {
-        ScissorsTable table = new ScissorsTable();
-        write(table, text);
-        due("text() of " + text, table.text(), want);
-        due("count(0) of " + text, table.count(0), tets);
-    }
-
-    private static void cornersAre(ScissorsTable table, int tet, int... want) {
-        for (int k = 0; k < 12; k++) {
-            due("corner(" + tet + ", " + k / 3 + ", " + k % 3 + ")", table.corner(tet, k / 3, k % 3), want[k]);
-        }
-    }
-
-    private static boolean tetThrows(ScissorsTable table, int tet, int what) {
-        try {
-            table.tet(tet, what);
-            return false;
-        } catch (NoSuchElementException e) {
-            return true;
-        }
+    private static void promise(int number) {
+        about("promise " + number);
     }
 
     private static void promise1() {
-        promise = 1;
+        promise(1);
         ScissorsTable table = new ScissorsTable();
         due("count(0)", table.count(0), 0);
         due("count(1)", table.count(1), 0);
@@ -149,7 +75,7 @@ public final class PromiseTest {
     }
 
     private static void promise2() {
-        promise = 2;
+        promise(2);
         ScissorsTable table = new ScissorsTable();
         due("nothing", table.feed(0, 0, 0, 0, 0), 0);
         due("bytes of 0 are left out", table.feed(0x74003000, 0, 0x3A, 0x00FF0000, 0x01020304), 8);
@@ -169,7 +95,7 @@ public final class PromiseTest {
     }
 
     private static void promise3() {
-        promise = 3;
+        promise(3);
         ScissorsTable table = new ScissorsTable();
         due("end(0) of none", table.end(0), true);
         due("end(1) of none", table.end(1), false);
@@ -190,7 +116,7 @@ public final class PromiseTest {
     }
 
     private static void promise4() {
-        promise = 4;
+        promise(4);
         faultIs("", 0);
         faultIs("   ", 3);
         faultIs("x", 0);
@@ -251,7 +177,7 @@ public final class PromiseTest {
     }
 
     private static void promise4Prisms() {
-        promise = 4;
+        promise(4);
         faultIs("p0:", 3);
         faultIs("p0:0", 3);
         faultIs("p0:-1", 3);
@@ -274,7 +200,7 @@ public final class PromiseTest {
     }
 
     private static void promise5() {
-        promise = 5;
+        promise(5);
         ScissorsTable table = told(RIGHT + ";" + EVEN_SIDED);
         due("count(0)", table.count(0), 2);
         due("the TAPE is empty", table.count(1), 0);
@@ -303,7 +229,7 @@ public final class PromiseTest {
     }
 
     private static void promise5LeftOut() {
-        promise = 5;
+        promise(5);
         leavesOut("t0:0,0,0/1,0,0/0,1,0/1,1,0", 1, 0);
         leavesOut("t0:0,0,0/1,1,1/2,2,2/0,5,1;" + RIGHT, 1, 1);
         leavesOut("b0:1,0,0/8,9,9", 0, 6);
@@ -328,7 +254,7 @@ public final class PromiseTest {
     }
 
     private static void promise5Full() {
-        promise = 5;
+        promise(5);
         String boxes = "b0:0,0,0/1,1,1;".repeat(7);
         leavesOut(boxes + "b1:0,0,0/2,2,2", 0, 48);
         leavesOut(boxes + "b1:0,0,0/2,2,2;" + RIGHT, 1, 48);
@@ -340,7 +266,7 @@ public final class PromiseTest {
     }
 
     private static void promise5Order() {
-        promise = 5;
+        promise(5);
         ScissorsTable table = told("b2:1,2,3/4,5,6;p1:7/1,2/3,2/4,5/0,6");
         cornersAre(table, 0, 1, 2, 3, 5, 2, 3, 5, 7, 3, 5, 7, 9);
         cornersAre(table, 1, 1, 2, 3, 5, 2, 3, 5, 2, 9, 5, 7, 9);
@@ -361,7 +287,7 @@ public final class PromiseTest {
     }
 
     private static void promise6() {
-        promise = 6;
+        promise(6);
         ScissorsTable table = told(RIGHT + ";" + EVEN_SIDED);
         write(table, "abc");
         table.pick(0, 0);
@@ -377,7 +303,7 @@ public final class PromiseTest {
     }
 
     private static void promise7() {
-        promise = 7;
+        promise(7);
         ScissorsTable table = told(EVEN_SIDED + ";t3:-9,-9,-9/9,9,-9/9,-9,9/-9,9,9;" + BY_19);
         due("tet(0, 0)", table.tet(0, 0), 1);
         due("tet(0, 1)", table.tet(0, 1), 2);
@@ -395,7 +321,7 @@ public final class PromiseTest {
     }
 
     private static void promise8() {
-        promise = 8;
+        promise(8);
         ScissorsTable table = told("t0:1,2,3/-4,5,6/7,8,-9/0,1,0");
         cornersAre(table, 0, 1, 2, 3, -4, 5, 6, 7, 8, -9, 0, 1, 0);
         for (int bad : new int[] {-1, 4, LEAST, GREATEST}) {
@@ -407,14 +333,8 @@ public final class PromiseTest {
         due("corner(0, 0, 3)", table.corner(0, 0, 3), HIDDEN);
     }
 
-    private static void edgeIs(ScissorsTable table, int tet, int edge, int... want) {
-        for (int what = 0; what < 6; what++) {
-            due("edge(" + tet + ", " + edge + ", " + what + ")", table.edge(tet, edge, what), want[what]);
-        }
-    }
-
     private static void promise9() {
-        promise = 9;
+        promise(9);
         ScissorsTable table = told(RIGHT + ";" + EVEN_SIDED + ";" + BY_19 + ";t0:0,0,0/8,0,0/0,8,0/0,0,8");
         edgeIs(table, 0, 0, 1, 1, 0, 1, 6, 0);
         edgeIs(table, 0, 2, 1, 1, 0, 1, 6, 0);
@@ -440,7 +360,7 @@ public final class PromiseTest {
 
     /** All the angles that are EVEN, and those of one A that is another M's. */
     private static void promise9Even() {
-        promise = 9;
+        promise(9);
         ScissorsTable table = told("t0:0,0,0/1,0,0/1,1,0/1,1,1;t0:0,0,0/2,0,0/2,1,0/2,2,2;t0:0,0,0/0,0,1/1,0,0/-1,1,0;"
                 + "t0:0,0,0/1,1,1/1,0,0/0,1,0;t0:0,0,0/1,1,1/1,0,0/-1,1,0;t0:0,0,0/0,0,1/1,0,0/-3,1,0;t0:0,0,0/1,0,0/0,1,0/0,-1,2");
         edgeIs(table, 0, 0, 1, 1, 1, 1, 3, 0);
@@ -460,7 +380,7 @@ public final class PromiseTest {
     }
 
     private static void promise10() {
-        promise = 10;
+        promise(10);
         ScissorsTable table = told(RIGHT + ";" + EVEN_SIDED + ";" + BY_19 + ";t0:0,0,0/1,0,0/0,1,0/0,4,7;t0:0,0,0/1,0,0/0,1,0/0,-4,7");
         primeIs(table, 0, 3, 3, 1);
         primeIs(table, 1, 0, 3, -2);
@@ -487,7 +407,7 @@ public final class PromiseTest {
     }
 
     private static void promise11() {
-        promise = 11;
+        promise(11);
         ScissorsTable table = told("b3:0,0,0/2,3,4;" + BY_19 + ";" + RIGHT + ";" + EVEN_SIDED);
         due("SIX of the box", table.solid(3, 0), 6 * 24);
         due("TETS of the box", table.solid(3, 1), 6);
@@ -507,14 +427,8 @@ public final class PromiseTest {
         }
     }
 
-    private static void termIs(ScissorsTable table, int solid, int i, int m, int p, int much) {
-        due("term(" + solid + ", " + i + ", 0)", table.term(solid, i, 0), m);
-        due("term(" + solid + ", " + i + ", 1)", table.term(solid, i, 1), p);
-        due("term(" + solid + ", " + i + ", 2)", table.term(solid, i, 2), much);
-    }
-
     private static void promise12() {
-        promise = 12;
+        promise(12);
         ScissorsTable table = told(BY_19 + ";" + RIGHT + ";" + EVEN_SIDED + ";t2:0,0,0/4,0,0/0,6,0/0,0,9");
         termIs(table, 0, 0, 2, 3, 3);
         termIs(table, 0, 1, 13, 19, 2);
@@ -544,7 +458,7 @@ public final class PromiseTest {
     }
 
     private static void promise13() {
-        promise = 13;
+        promise(13);
         ScissorsTable table = told(BY_19 + ";" + RIGHT + ";" + EVEN_SIDED);
         due("much(0, 29, 19)", table.much(0, 29, 19), -2);
         due("much(0, 13, 19)", table.much(0, 13, 19), 2);
@@ -561,7 +475,7 @@ public final class PromiseTest {
     }
 
     private static void promise14() {
-        promise = 14;
+        promise(14);
         ScissorsTable table = told("b0:0,0,0/1,2,6;b1:-1,-1,-1/3,4,1;t2:0,0,0/6,0,0/0,6,0/0,0,2;t3:0,0,0/1,0,0/0,1,0/0,0,1");
         due("boxes", table.alike(0, 1), 0);
         due("boxes", table.alike(1, 0), 0);
@@ -587,7 +501,7 @@ public final class PromiseTest {
     }
 
     private static void promise15() {
-        promise = 15;
+        promise(15);
         ScissorsTable table = told(RIGHT + ";" + EVEN_SIDED + ";t2:0,0,0/2,0,0/0,3,0/0,0,5;t3:0,0,0/2,0,0/0,5,0/0,0,3;t3:0,0,0/1,0,0/0,1,0/0,0,1");
         due("M", table.unlike(0, 1, 0), 2);
         due("P", table.unlike(0, 1, 1), 3);
@@ -610,7 +524,7 @@ public final class PromiseTest {
     }
 
     private static void promise16() {
-        promise = 16;
+        promise(16);
         ScissorsTable table = told(RIGHT + ";" + EVEN_SIDED + ";b2:0,0,0/9,9,9");
         due("lacks(0, 1)", table.lacks(0, 1), -1);
         due("lacks(1, 0)", table.lacks(1, 0), 1);
@@ -624,7 +538,7 @@ public final class PromiseTest {
     }
 
     private static void promise17() {
-        promise = 17;
+        promise(17);
         ScissorsTable table = told("t0:0,0,0/4,0,0/0,4,0/0,0,4;t0:0,0,0/0,4,0/4,0,0/0,0,4");
         for (int tet = 0; tet < 2; tet++) {
             due("CORNER", table.where(tet, 0, 0, 0), 1);
@@ -652,7 +566,7 @@ public final class PromiseTest {
     }
 
     private static void promise18() {
-        promise = 18;
+        promise(18);
         ScissorsTable table = told("t0:0,0,0/4,0,0/0,4,0/0,0,4;" + EVEN_SIDED);
         due("within", table.cut(0, 1, 1, 1), 4);
         due("count(0)", table.count(0), 5);
@@ -685,7 +599,7 @@ public final class PromiseTest {
     }
 
     private static void promise18Edges() {
-        promise = 18;
+        promise(18);
         ScissorsTable table = told("t0:0,0,0/4,0,0/0,4,0/0,0,4;" + "b1:0,0,0/1,1,1;".repeat(6) + "b1:0,0,0/1,1,1;t1:0,0,0/4,0,0/0,4,0/0,0,4");
         due("TETS", table.count(0), 44);
         for (int bad : new int[] {-1, 44, LEAST, GREATEST}) {
@@ -712,7 +626,7 @@ public final class PromiseTest {
     }
 
     private static void promise19() {
-        promise = 19;
+        promise(19);
         String two = "t0:1,0,0/0,2,0/0,0,0/0,0,3;t2:0,0,0/1,0,0/0,1,0/0,0,1;t0:0,2,0/-2,0,0/0,0,3/0,0,0;t3:0,0,0/1,0,0/0,1,0/0,0,1";
         ScissorsTable table = told(two);
         table.pick(1, 1);
@@ -737,7 +651,7 @@ public final class PromiseTest {
 
     /** The one that goes lies between the others by each axis, and aslant. */
     private static void promise19Axes() {
-        promise = 19;
+        promise(19);
         int[][] ways = {{1, 0, 0}, {0, 1, 0}, {0, 0, 1}, {1, 1, 0}, {1, -1, 0}, {0, 1, -1}, {-1, 0, 1}, {1, 2, 3}, {-1, -1, -1}, {2, -1, 0}};
         for (int[] way : ways) {
             for (int times = -2; times <= 2; times++) {
@@ -757,7 +671,7 @@ public final class PromiseTest {
     }
 
     private static void promise19Refused() {
-        promise = 19;
+        promise(19);
         String first = "t0:1,0,0/0,2,0/0,0,0/0,0,3;";
         ScissorsTable table = told(first + "t1:0,2,0/-2,0,0/0,0,3/0,0,0;t0:0,2,0/-2,1,0/0,0,3/0,0,0;t0:1,0,0/0,2,0/0,0,0/0,0,3;"
                 + "t0:2,0,0/0,2,0/0,0,0/0,0,3;t0:-2,0,0/0,3,0/0,0,0/0,0,3;t0:5,5,5/6,5,5/5,6,5/5,5,6");
@@ -781,7 +695,7 @@ public final class PromiseTest {
     }
 
     private static void promise20() {
-        promise = 20;
+        promise(20);
         String text = "t0:1,2,3/2,2,3/1,5,3/1,2,7";
         int[][] first = {{1, 2, 3}, {1, 3, 2}, {2, 1, 3}, {2, 3, 1}, {3, 1, 2}, {3, 2, 1}};
         for (int by = 1; by < 48; by++) {
@@ -819,7 +733,7 @@ public final class PromiseTest {
     }
 
     private static void promise21() {
-        promise = 21;
+        promise(21);
         ScissorsTable table = told(BY_19);
         table.pick(0, 3);
         due("all are 0", table.move(0, 0, 0, 0), -3);
@@ -846,7 +760,7 @@ public final class PromiseTest {
     }
 
     private static void promise22() {
-        promise = 22;
+        promise(22);
         ScissorsTable table = told(RIGHT + ";" + EVEN_SIDED);
         table.pick(0, 3);
         due("it is", table.give(0, 0), -3);
@@ -867,7 +781,7 @@ public final class PromiseTest {
     }
 
     private static void promise23() {
-        promise = 23;
+        promise(23);
         ScissorsTable table = told(RIGHT + ";" + EVEN_SIDED + ";" + BY_19);
         table.pick(0, 3);
         for (int bad : new int[] {-1, 3, LEAST, GREATEST}) {
@@ -887,7 +801,7 @@ public final class PromiseTest {
     }
 
     private static void promise24() {
-        promise = 24;
+        promise(24);
         ScissorsTable table = told(RIGHT + ";t0:0,0,0/4,0,0/0,4,0/0,0,4;t0:4,0,0/0,0,0/0,4,0/0,0,4;t0:-9,-9,-9/9,-9,-9/-9,9,-9/-9,-9,9;t0:0,0,0/1,0,0/0,1,0/1,1,9;"
                 + "t0:0,0,0/0,0,9/1,0,0/0,1,0");
         due("CORNERS", table.points(0), 4);
@@ -901,14 +815,8 @@ public final class PromiseTest {
         due("no such one", table.points(GREATEST), NONE);
     }
 
-    private static void fairestIs(ScissorsTable table, int tet, int... want) {
-        for (int what = 0; what < 4; what++) {
-            due("fairest(" + tet + ", " + what + ")", table.fairest(tet, what), want[what]);
-        }
-    }
-
     private static void promise25() {
-        promise = 25;
+        promise(25);
         ScissorsTable table = told("t0:0,0,0/4,0,0/0,4,0/0,0,4;t0:0,0,0/2,0,0/0,2,0/0,0,2;t0:0,0,0/3,0,0/0,3,0/0,0,3;" + RIGHT + ";t0:0,0,0/-3,0,0/0,1,0/0,0,1");
         fairestIs(table, 0, 1, 1, 1, 16);
         // All six middles of edges are as fair: X 0, then Y 0.
@@ -925,7 +833,7 @@ public final class PromiseTest {
     }
 
     private static void promise26() {
-        promise = 26;
+        promise(26);
         ScissorsTable table = told("t0:0,0,0/2,0,0/0,2,0/0,0,2;" + RIGHT + ";t0:0,0,0/0,0,9/1,0,0/0,1,0;t0:-9,-9,-9/9,-9,-9/-9,9,-9/-9,-9,9");
         due("none", table.cutsTo(0, 8), 0);
         due("none", table.cutsTo(0, GREATEST), 0);
@@ -957,7 +865,7 @@ public final class PromiseTest {
     }
 
     private static void promise27() {
-        promise = 27;
+        promise(27);
         ScissorsTable table = told(RIGHT);
         for (int k = 1; k <= 6; k++) {
             due("pick", table.pick(0, 6 - k), k);
@@ -973,7 +881,7 @@ public final class PromiseTest {
     }
 
     private static void promise28() {
-        promise = 28;
+        promise(28);
         ScissorsTable table = told("t0:0,0,0/4,0,0/0,4,0/0,0,4");
         due("none were", table.unpick(), 0);
         table.pick(0, 0);
@@ -1013,7 +921,7 @@ public final class PromiseTest {
     }
 
     private static void promise29() {
-        promise = 29;
+        promise(29);
         ScissorsTable table = told(RIGHT + ";" + EVEN_SIDED + ";t2:0,0,0/2,0,0/0,3,0/0,0,5");
         due("nothing", table.rank(), 0);
         table.pick(0, 0);
@@ -1031,7 +939,7 @@ public final class PromiseTest {
     }
 
     private static void promise30() {
-        promise = 30;
+        promise(30);
         ScissorsTable table = told(RIGHT + ";" + EVEN_SIDED + ";t2:0,0,0/2,0,0/0,3,0/0,0,5");
         due("nothing", table.relation(0), HIDDEN);
         table.pick(1, 3);
@@ -1066,7 +974,7 @@ public final class PromiseTest {
     }
 
     private static void promise31() {
-        promise = 31;
+        promise(31);
         ScissorsTable table = told(RIGHT + ";" + EVEN_SIDED + ";t2:0,0,0/2,0,0/0,3,0/0,0,5;b3:0,0,0/1,1,1");
         int[] want = {0, 1, 1, 1, 1, 2, 2, 2, 0, 1, 1, 1, 1, 2, 2, 2};
         for (int solids = 0; solids < 16; solids++) {
@@ -1079,7 +987,7 @@ public final class PromiseTest {
     }
 
     private static void promise32() {
-        promise = 32;
+        promise(32);
         ScissorsTable table = told(RIGHT + ";" + EVEN_SIDED + ";t2:0,0,0/2,0,0/0,3,0/0,0,5;t3:0,0,0/3,0,0/0,3,0/0,0,3");
         // SUMS by (2, 3): 3, -12, none, 9.
         due("3 and -12", table.relationOf(3, 0), 4);
@@ -1107,7 +1015,7 @@ public final class PromiseTest {
     }
 
     private static void promise33() {
-        promise = 33;
+        promise(33);
         ScissorsTable table = told("t0:0,0,0/2,0,0/0,2,0/0,0,2;" + EVEN_SIDED + ";t2:0,0,0/3,0,0/0,3,0/0,0,3");
         // SUMS by (2, 3): 6, -12, 9.
         due("of the first", table.multiples(0, 2, 0), 3);
@@ -1135,7 +1043,7 @@ public final class PromiseTest {
     }
 
     private static void promise34() {
-        promise = 34;
+        promise(34);
         ScissorsTable table = new ScissorsTable();
         due("the sides are so", table.plan(4, 5, 6, 4, 5, 6), 0);
         due("one", table.plan(2, 2, 2, 1, 4, 2), 1);
@@ -1163,14 +1071,8 @@ public final class PromiseTest {
         due("24 at most", table.plan(24, 1, 1, 1, 24, 1) > 1, true);
     }
 
-    private static void stepIs(ScissorsTable table, int i, int axis, int other, int n) {
-        due("step(" + i + ", 0)", table.step(i, 0), axis);
-        due("step(" + i + ", 1)", table.step(i, 1), other);
-        due("step(" + i + ", 2)", table.step(i, 2), n);
-    }
-
     private static void promise35() {
-        promise = 35;
+        promise(35);
         ScissorsTable table = new ScissorsTable();
         due("no PLAN", table.step(0, 0), HIDDEN);
         table.plan(12, 12, 12, 9, 16, 12);
@@ -1195,7 +1097,7 @@ public final class PromiseTest {
     }
 
     private static void promise36() {
-        promise = 36;
+        promise(36);
         ScissorsTable table = new ScissorsTable();
         due("no PLAN", table.side(0, 0), HIDDEN);
         table.plan(2, 1, 2, 1, 4, 1);
@@ -1213,7 +1115,7 @@ public final class PromiseTest {
     }
 
     private static void promise37() {
-        promise = 37;
+        promise(37);
         ScissorsTable table = new ScissorsTable();
         due("no PLAN", table.cube(0, 0, 0, 0, 0), HIDDEN);
         table.plan(3, 4, 2, 2, 6, 2);
@@ -1249,7 +1151,7 @@ public final class PromiseTest {
     }
 
     private static void promise38() {
-        promise = 38;
+        promise(38);
         ScissorsTable table = new ScissorsTable();
         due("no PLAN", table.pieces(0), HIDDEN);
         table.plan(2, 1, 2, 1, 4, 1);
@@ -1279,7 +1181,7 @@ public final class PromiseTest {
     }
 
     private static void promise39() {
-        promise = 39;
+        promise(39);
         ScissorsTable table = new ScissorsTable();
         int[] empty = {0, 0, 0, 0, 0, 15, 0};
         for (int what = 0; what < 7; what++) {
