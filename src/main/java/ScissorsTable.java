@@ -1043,6 +1043,8 @@ public final class ScissorsTable {
         /** The product of the first twelve primes is beyond every norm that an EDGE can have. */
         static final int MOST_PRIMES = 12;
         static final int MOST_ROOT = 31;
+        /** The square of the longest edge; that of a face's doubled area is at most this times this. */
+        static final int MOST_TRIED = 972;
         static final int RIGHT = 6;
 
         int q;
@@ -1128,7 +1130,7 @@ public final class ScissorsTable {
             }
             int x = oneFace;
             int y = otherFace;
-            for (int p = 2; p * p <= Math.max(x, y); p += p == 2 ? 1 : 2) {
+            for (int p = 2; p <= MOST_TRIED && p * p <= Math.max(x, y); p += p == 2 ? 1 : 2) {
                 if (x % p == 0 || y % p == 0) {
                     x = without(x, p);
                     y = without(y, p);
@@ -1695,7 +1697,7 @@ public final class ScissorsTable {
             int first = boxOf(a, b);
             int length = 0;
             int box = boxOf(d, e);
-            for (int k = 0; k < BOXES && box != first; k++) {
+            for (int k = 0; k < BOXES && box >= 0 && box != first; k++) {
                 queue[k] = reached[box];
                 length++;
                 box = ahead[box];

@@ -286,9 +286,11 @@ public final class AngleBoundsTest extends Checks {
         due("much(1, 2, 3)", table.much(1, 2, 3), -12);
         due("much(0, 13, 19)", table.much(0, 13, 19), 2);
         for (int m = -1; m <= 40; m++) {
+            // A new object, so that none has more calls than it may.
+            ScissorsTable fresh = told(BY_19 + ";" + EVEN_SIDED);
             for (int p = 0; p <= 40; p++) {
                 int want = p != 19 ? 0 : m == 13 ? 2 : m == 29 || m == 34 ? -2 : 0;
-                due("much(0, " + m + ", " + p + ")", table.much(0, m, p), want);
+                due("much(0, " + m + ", " + p + ")", fresh.much(0, m, p), want);
             }
         }
         due("of the other SOLID alone", table.much(0, 2, 3), 0);
@@ -304,6 +306,7 @@ public final class AngleBoundsTest extends Checks {
     }
 
     private static void alikeBounds() {
+        says("Two SOLIDS are ALIKE (each can be cut into the other): of one volume, and all of both SUMS alike.");
         says("Whether two SOLIDS are ALIKE: 0 they are, 1 their volumes are unlike, 2 their SUMS. NONE: no such ones.");
         // SIX 8 of 6 by (2, 3); SIX 8 of none; SIX 8 of 3 and 3; SIX 7 of none.
         String text = "t0:0,0,0/2,0,0/0,2,0/0,0,2;b1:0,0,0/1,1,1;t1:0,0,0/1,0,0/1,1,0/1,1,2;" + "t2:0,0,0/1,0,0/0,1,0/0,0,1;t2:0,0,0/1,0,0/0,1,0/0,0,1;" + CUBE
@@ -431,6 +434,7 @@ public final class AngleBoundsTest extends Checks {
     }
 
     private static void ranks() {
+        says("`int rank()`: RANK of what is PICKED.");
         says("Their ANGLES hang together, if some whole numbers of times, not all 0, they add up to EVEN. RANK: the most of them that don't.");
         // EVEN; (2, 3) once; (2, 3) twice back; then (1, 5); (1, 13); (1, 5) and (1, 13).
         ScissorsTable table = told(RIGHT + ";" + EVEN_SIDED + ";" + square(1, 0, 2, 1) + ";" + square(1, 0, 3, 2) + ";" + square(1, 0, 4, 7));
@@ -625,6 +629,8 @@ public final class AngleBoundsTest extends Checks {
     }
 
     private static void multiplesBounds() {
+        says("MULTIPLES: of the first (0), of the other one (1), by how much volumes of these differ "
+                + "(2: SIX of so many of the first less that of so many of the other one).");
         says("MULTIPLES of two SOLIDS whose SUMS are not 0: the least numbers above 0 of times by which both SUMS are alike.");
         // By (2, 3): 6 of SIX 8, 12 of SIX 64, 9 of SIX 27, 6 of SIX 2 in one and a cube.
         ScissorsTable table = told("t0:0,0,0/2,0,0/0,2,0/0,0,2;t1" + OF_4.substring(2) + ";t2:0,0,0/3,0,0/0,3,0/0,0,3;t3" + RIGHT.substring(2) + ";t3" + RIGHT.substring(2)

@@ -391,8 +391,9 @@ public final class PlanBoundsTest extends Checks {
             due("again", table.pieces(steps), k % 4 == 0 ? 1 : 24);
             due("ahead of all", table.pieces(0), 1);
         }
-        int[][] plans = {{5, 16, 21, 16, 21, 5}, {9, 8, 24, 24, 9, 8}, {24, 24, 3, 12, 12, 12}, {16, 9, 12, 12, 16, 9}};
-        int[] want = {16, 8, 4, 4};
+        int[][] plans = {{5, 16, 21, 16, 21, 5}, {9, 8, 24, 24, 9, 8}, {24, 24, 3, 12, 12, 12}, {16, 9, 12, 12, 16, 9}, {1, 12, 22, 11, 12, 2},
+            {5, 4, 19, 20, 19, 1}, {1, 1, 6, 3, 2, 1}, {1, 12, 12, 3, 3, 16}, {1, 17, 18, 17, 2, 9}};
+        int[] want = {16, 8, 4, 4, 44, 160, 6, 6, 62};
         for (int k = 0; k < plans.length; k++) {
             ScissorsTable table = new ScissorsTable();
             int steps = plan(table, plans[k]);

@@ -29,6 +29,7 @@ public final class TetBoundsTest extends Checks {
         nothingChanges();
         refusedFirst();
         pointsBounds();
+        lastOf48();
         fairestBounds();
         fairestTies();
         cutsToBounds();
@@ -244,14 +245,14 @@ public final class TetBoundsTest extends Checks {
 
     private static void joinBetween() {
         says("if what they are together is a TET: one of the three lies between both that are unlike");
-        int[] middle = {0, 0, 0};
-        int[] third = {1, 4, 0};
-        int[] fourth = {0, 1, 4};
-        int[] own = {2, 0, 1};
+        int[] middle = {1, -2, 3};
+        int[] third = {2, 2, 3};
+        int[] fourth = {1, -1, 7};
+        int[] own = {3, -2, 4};
         for (int x = -8; x <= 8; x++) {
             for (int y = -1; y <= 1; y++) {
                 for (int z = -4; z <= 4; z++) {
-                    int[] other = {x, y, z};
+                    int[] other = {1 + x, -2 + y, 3 + z};
                     String text = tet(own, middle, third, fourth) + ";" + tet(other, middle, third, fourth);
                     ScissorsTable table = written(text);
                     table.text();
@@ -307,7 +308,8 @@ public final class TetBoundsTest extends Checks {
         says("the other TET is gone (those behind it come up)");
         String one = "t0:4,0,0/0,0,0/0,4,0/0,0,4";
         String other = "t0:-2,0,0/0,0,0/0,4,0/0,0,4";
-        String[] small = {"t1" + RIGHT.substring(2), "t2" + RIGHT.substring(2), "t3" + RIGHT.substring(2)};
+        String far = ":5,6,7/6,6,7/5,7,7/5,6,8";
+        String[] small = {"t1" + far, "t2" + far, "t3" + far};
         for (int k = 0; k < 2; k++) {
             ScissorsTable table = told(small[0] + ";" + one + ";" + small[1] + ";" + other + ";" + small[2]);
             due("join", k == 0 ? table.join(1, 3) : table.join(3, 1), 1);
@@ -326,7 +328,8 @@ public final class TetBoundsTest extends Checks {
     }
 
     private static void joinRefused() {
-        says("-1, -3 (one and the same, of unlike SOLIDS, it is no TET).");
+        says("JOINED are two TETS of one SOLID that have three CORNERS alike");
+        says("JOINED: the number of what they are. -1, -3 (one and the same, of unlike SOLIDS, it is no TET).");
         String one = "t0:4,0,0/0,0,0/0,4,0/0,0,4";
         ScissorsTable table = told(one + ";t1:-2,0,0/0,0,0/0,4,0/0,0,4;" + one + ";t0:-2,0,0/0,0,0/0,4,0/0,0,3;t0:-2,0,0/0,0,0/0,4,0/0,0,4");
         due("one and the same", table.join(0, 0), -3);
@@ -395,7 +398,7 @@ public final class TetBoundsTest extends Checks {
     private static void moveBounds() {
         says("MOVED: its SIX. -1, -2 (a CORNER would be beyond, a number not -18 .. 18), -3 (all are 0).");
         // From -2 to 3 by X, from 1 to 5 by Y, from -9 to -7 by Z.
-        String text = RIGHT + ";t0:-2,1,-9/3,2,-8/0,5,-9/1,3,-7";
+        String text = RIGHT + ";t0:-2,1,-9/3,2,-8/0,5,-9/1,3,-7;" + EVEN_SIDED;
         int[] least = {-7, -10, 0};
         int[] greatest = {6, 4, 16};
         for (int axis = 0; axis < 3; axis++) {
@@ -408,6 +411,8 @@ public final class TetBoundsTest extends Checks {
                 boolean fits = by >= least[axis] && by <= greatest[axis];
                 due("move by " + by + " at axis " + axis, table.move(1, m[0], m[1], m[2]), !fits ? -2 : by == 0 ? -3 : six);
                 due("corner", table.corner(1, 2, axis), fits ? old + by : old);
+                cornersAre(table, 0, 0, 0, 0, 1, 0, 0, 0, 1, 0, 0, 0, 1);
+                cornersAre(table, 2, 0, 0, 0, 1, 1, 0, 1, 0, 1, 0, 1, 1);
             }
         }
         for (int k = 0; k < 27; k++) {
@@ -566,6 +571,9 @@ public final class TetBoundsTest extends Checks {
             ScissorsTable table = told(EVEN_SIDED + ";" + texts[k]);
             due("points of " + texts[k], table.points(1), want[k]);
         }
+        for (int by = 0; by < 48; by++) {
+            pointsByWhere(by);
+        }
         says("POINTS of a TET. NONE: no such one.");
         for (int bad : new int[] {-1, 1, LEAST, GREATEST}) {
             due("points(" + bad + ")", told(OF_4).points(bad), NONE);
@@ -573,8 +581,48 @@ public final class TetBoundsTest extends Checks {
         due("of none", new ScissorsTable().points(0), NONE);
     }
 
+    /** From -9 to -4, from -2 to 3, from 3 to 9, turned: as many as there are places at which where() says so. */
+    private static void pointsByWhere(int by) {
+        ScissorsTable table = told("t0:-9,3,3/-4,2,4/-8,-2,5/-9,3,9");
+        table.turn(0, by);
+        int found = 0;
+        for (int k = 0; k < 6 * 6 * 7; k++) {
+            int[] p = turned(new int[] {-9 + k / 42, -2 + k / 7 % 6, 3 + k % 7}, by);
+            found += table.where(0, p[0], p[1], p[2]) > 0 ? 1 : 0;
+        }
+        due("points of turn " + by, table.points(0), found);
+        due("more than CORNERS", found > 5, true);
+        due("the FAIREST is one of them", table.where(0, table.fairest(0, 0), table.fairest(0, 1), table.fairest(0, 2)) > 1, true);
+    }
+
+    private static void lastOf48() {
+        says("48 at most in all");
+        ScissorsTable table = told(tets(47) + ";t3:-1,2,-3/3,2,-3/-1,6,-3/-1,2,1");
+        due("SOLID of the last", table.tet(47, 0), 3);
+        due("SIX of the last", table.tet(47, 1), 64);
+        due("points of the last", table.points(47), 35);
+        due("within the last", table.where(47, 0, 3, -2), 4);
+        fairestIs(table, 47, 0, 3, -2, 16);
+        due("cutsTo of the last", table.cutsTo(47, 16), 1);
+        edgeIs(table, 47, 5, 4, 2, 1, 1, NONE, 1);
+        due("SUM of the last", table.much(3, 2, 3), 12);
+        due("not EVEN", table.solid(3, 2), 3);
+        due("EVEN of all", table.most(2), 6 * 48 - 3 - 3 - 3 * 4);
+        due("turn of the last", table.turn(47, 7), 12);
+        due("move of the last", table.move(47, 1, 0, 0), 64);
+        due("give of the last", table.give(47, 2), 3);
+        due("pick of the last", table.pick(47, 5), 1);
+        due("with POINTS", table.most(4), 2);
+        due("drop of the last", table.drop(47), 47);
+        due("what was there is not counted", table.most(2), 6 * 47 - 3 - 3 * 4);
+        due("nor in its SOLID", table.solid(2, 2), 0);
+        due("with POINTS", table.most(4), 1);
+        due("none behind", table.where(47, 0, 0, 0), NONE);
+        due("none behind", table.points(47), NONE);
+    }
+
     private static void fairestBounds() {
-        says("HIDDEN: no such TET, it has no POINTS but CORNERS, no such what.");
+        says("FAIREST: X, Y, Z (0 .. 2), the greatest SIX (3). HIDDEN: no such TET, it has no POINTS but CORNERS, no such what.");
         ScissorsTable table = told(RIGHT + ";t0:0,0,0/2,0,0/0,1,0/0,0,1;t0:0,0,0/1,0,0/0,1,0/1,1,9;t0:1,0,0/0,1,0/0,0,1/-1,-1,-1");
         fairestIs(table, 0, HIDDEN, HIDDEN, HIDDEN, HIDDEN);
         fairestIs(table, 1, 1, 0, 0, 1);
@@ -649,13 +697,16 @@ public final class TetBoundsTest extends Checks {
 
     private static void cutsToForty() {
         says("they are more than 40");
-        String[] texts = {"t0:0,9,1/-5,3,8/-1,-5,3/3,5,5", "t0:6,-6,8/-8,-5,4/-2,-6,8/5,-6,-9", "t0:6,3,-9/2,-7,-4/-5,-8,-9/0,4,-1", "t0:-3,-4,8/9,-1,-4/4,-7,-6/-4,8,0"};
-        int[] to = {11, 3, 19, 29};
-        int[] cuts = {40, 40, 41, 42};
+        String[] texts = {"t0:0,9,1/-5,3,8/-1,-5,3/3,5,5", "t0:6,-6,8/-8,-5,4/-2,-6,8/5,-6,-9", "t0:6,3,-9/2,-7,-4/-5,-8,-9/0,4,-1", "t0:-3,-4,8/9,-1,-4/4,-7,-6/-4,8,0",
+            "t0:3,0,-9/3,-9,0/3,9,9/6,0,9"};
+        // The last one by 1, 3, 9 and 27 CUTS in three: 81 pieces of 9.
+        int[] to = {11, 3, 19, 29, 9};
+        int[] cuts = {40, 40, 41, 42, 40};
         for (int k = 0; k < texts.length; k++) {
             due("cutsTo of " + texts[k], told(texts[k]).cutsTo(0, to[k]), cuts[k] > 40 ? NONE : cuts[k]);
             due("CUT one by one", cutOneByOne(texts[k], to[k]), cuts[k]);
         }
+        due("pieces of 9 can't be CUT on", told(texts[4]).cutsTo(0, 8), NONE);
         due("far more", told("t0:-9,-9,-9/9,-9,-9/-9,9,-9/-9,-9,9").cutsTo(0, 1), NONE);
         due("far more", told("t0:-9,-9,-9/9,9,-9/9,-9,9/-9,9,9").cutsTo(0, 90), NONE);
     }

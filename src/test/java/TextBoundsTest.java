@@ -276,6 +276,7 @@ public final class TextBoundsTest extends Checks {
     }
 
     private static void solidDigits() {
+        says("SOLIDS 0 .. 3 are bags of TETS");
         says("t and a digit 0 .. 3 (the SOLID)");
         String tet = RIGHT.substring(2);
         String box = ":0,0,0/1,1,1";
