@@ -12,7 +12,7 @@ import java.util.regex.Pattern;
 
 /** Random runs of calls, each answer compared with that of a slow model written by other ways than the class. */
 public final class ModelTest {
-    private static final int RUNS = 1200;
+    private static final int RUNS = 600;
     private static final int CALLS = 512;
     private static int wrong;
 
